@@ -1,0 +1,63 @@
+/** Counts the answers that are not the due ones, and tells each. */
+final class Expect {
+    private static final int MOST_TOLD = 20;
+    private static int asked = 0;
+    private static int wrong = 0;
+
+    private Expect() {
+    }
+
+    static void same(String call, long got, long due) {
+        asked++;
+        if (got != due) {
+            tell(call + " answered " + got + ", due is " + due);
+        }
+    }
+
+    static void same(String call, double got, double due) {
+        asked++;
+        if (got != due) {
+            tell(call + " answered " + got + ", due is " + due);
+        }
+    }
+
+    static void yes(String call, boolean got) {
+        same(call, got ? 1 : 0, 1);
+    }
+
+    static void no(String call, boolean got) {
+        same(call, got ? 1 : 0, 0);
+    }
+
+    /** The call has to throw just this exception, none of a class below it. */
+    static void throwing(String call, Class<? extends RuntimeException> due, Runnable run) {
+        asked++;
+        Class<?> got = null;
+        try {
+            run.run();
+        } catch (RuntimeException thrown) {
+            got = thrown.getClass();
+        }
+        if (got != due) {
+            tell(call + " threw " + got + ", due is " + due);
+        }
+    }
+
+    static void tell(String text) {
+        wrong++;
+        if (wrong <= MOST_TOLD) {
+            System.out.println(text);
+        }
+    }
+
+    static boolean isAnyWrong() {
+        return wrong != 0;
+    }
+
+    static void end(String test) {
+        System.out.println(test + ": " + asked + " answers looked at, " + wrong + " not as due");
+        if (wrong != 0) {
+            System.exit(1);
+        }
+    }
+}
