@@ -622,7 +622,7 @@ public final class Ironwood {
             if (!isChange) {
                 return;
             }
-            long cells = told.cellsAt(slot);
+            long cells = told.cellsOf(told.actVariables[slot], place);
             toUnmade[statement] &= ~cells;
             toMade[statement] &= ~cells;
             toGone[statement] &= ~cells;
@@ -734,8 +734,9 @@ public final class Ironwood {
             if (to == NONE) {
                 return false;
             }
-            boolean isNew = !comesTo(to);
+            long before = reached;
             reached |= 1L << to;
+            boolean isNew = reached != before;
             long kept = ~steps.changes[from];
             isNew |= addTo(unmade, to, steps.toUnmade[from] | unmade[from] & kept);
             isNew |= addTo(made, to, steps.toMade[from] | made[from] & kept);

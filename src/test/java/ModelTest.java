@@ -38,7 +38,7 @@ public final class ModelTest {
         for (int k = 0; k < first; k++) {
             tellVariable(random.nextInt(4));
         }
-        int calls = 10 + random.nextInt(60);
+        int calls = seed % 15 == 7 ? 90 : 10 + random.nextInt(60);
         for (int k = 0; k < calls && !Expect.isAnyWrong(); k++) {
             if (random.nextInt(3) != 0) {
                 tell();
