@@ -3,8 +3,26 @@ final class Expect {
     private static final int MOST_TOLD = 20;
     private static int asked = 0;
     private static int wrong = 0;
+    private static int sentences = 0;
+    private static String sentence = "";
 
     private Expect() {
+    }
+
+    /** What the document says in one sentence, and what is tried to see that it holds. */
+    static void holds(String text, Runnable run) {
+        sentences++;
+        sentence = text;
+        int before = asked;
+        try {
+            run.run();
+        } catch (RuntimeException thrown) {
+            tell("threw " + thrown);
+        }
+        if (asked == before) {
+            tell("looked at nothing");
+        }
+        sentence = "";
     }
 
     static void same(String call, long got, long due) {
@@ -18,6 +36,13 @@ final class Expect {
         asked++;
         if (got != due) {
             tell(call + " answered " + got + ", due is " + due);
+        }
+    }
+
+    static void same(String call, String got, String due) {
+        asked++;
+        if (!got.equals(due)) {
+            tell(call + ": " + got + ", due is: " + due);
         }
     }
 
@@ -46,7 +71,7 @@ final class Expect {
     static void tell(String text) {
         wrong++;
         if (wrong <= MOST_TOLD) {
-            System.out.println(text);
+            System.out.println(sentence.isEmpty() ? text : "'" + sentence + "': " + text);
         }
     }
 
@@ -55,7 +80,8 @@ final class Expect {
     }
 
     static void end(String test) {
-        System.out.println(test + ": " + asked + " answers looked at, " + wrong + " not as due");
+        String told = sentences == 0 ? "" : sentences + " sentences, ";
+        System.out.println(test + ": " + told + asked + " answers looked at, " + wrong + " not as due");
         if (wrong != 0) {
             System.exit(1);
         }

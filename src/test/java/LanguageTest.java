@@ -116,6 +116,23 @@ public final class LanguageTest {
 
     /** What is made, is made with the object: the calls that look at most of it make nothing. */
     private static void room() {
+        Ironwood[] all = new Ironwood[4];
+        for (int k = 0; k < all.length; k++) {
+            all[k] = busy();
+        }
+        long before = made();
+        for (Ironwood x : all) {
+            for (int k = 0; k < 150; k++) {
+                x.setTarget(39, k % 41);
+                x.culprit();
+                x.digest();
+            }
+        }
+        long bytes = made() - before;
+        Expect.yes("calls make nothing, but made " + bytes + " bytes", bytes < 15_000);
+    }
+
+    private static Ironwood busy() {
         Ironwood x = new Ironwood();
         for (int v = 0; v < 12; v++) {
             x.variable(v % 4, v % 3 == 0);
@@ -124,14 +141,7 @@ public final class LanguageTest {
             x.call(s % 12, (s + 1) % 12, (s + 6) % 12, s % 4);
         }
         x.branch(false, 0);
-        long before = made();
-        for (int k = 0; k < 400; k++) {
-            x.setTarget(39, k % 40);
-            x.culprit();
-            x.digest();
-        }
-        long bytes = made() - before;
-        Expect.yes("calls make nothing, but made " + bytes + " bytes", bytes < 100_000);
+        return x;
     }
 
     private static long made() {

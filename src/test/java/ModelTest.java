@@ -1,10 +1,16 @@
+import java.util.ArrayList;
+import java.util.List;
 import java.util.Random;
 
 /** Long runs of chosen and of wrong calls: Ironwood has to answer each as the model does. */
 public final class ModelTest {
     private static final int RUNS = 1500;
+    /** An object is used for so many calls; then one is taken to which the same was told. */
+    private static final int MOST_CALLS = 512;
     private final Random random;
-    private final Ironwood program = new Ironwood();
+    private Ironwood program = new Ironwood();
+    private int used = 0;
+    private final List<Call> tellings = new ArrayList<>();
     private final Model model = new Model();
     private final StringBuilder story = new StringBuilder();
     private int variables;
@@ -21,9 +27,9 @@ public final class ModelTest {
         for (int seed = 0; seed < runs && !Expect.isAnyWrong(); seed++) {
             ModelTest test = new ModelTest(seed);
             test.run(seed);
-            faults += test.program.faults();
+            faults += test.model.faults();
             for (int code = 1; code <= 6; code++) {
-                ofCode[code] += test.program.faultsOf(code);
+                ofCode[code] += test.model.faultsOf(code);
             }
         }
         for (int code = 1; code <= 6; code++) {
@@ -38,12 +44,12 @@ public final class ModelTest {
         for (int k = 0; k < first; k++) {
             tellVariable(random.nextInt(4));
         }
-        int calls = seed % 15 == 7 ? 90 : 10 + random.nextInt(60);
-        for (int k = 0; k < calls && !Expect.isAnyWrong(); k++) {
-            if (random.nextInt(3) != 0) {
-                tell();
-            } else {
-                ask();
+        if (seed % 20 == 11) {
+            callUpToTheLast();
+        } else {
+            int calls = seed % 15 == 7 ? 90 : 10 + random.nextInt(60);
+            for (int k = 0; k < calls && !Expect.isAnyWrong(); k++) {
+                tellOrAsk();
             }
         }
         compareAll();
@@ -52,13 +58,60 @@ public final class ModelTest {
         }
     }
 
+    private void tellOrAsk() {
+        if (random.nextInt(3) != 0) {
+            tell();
+        } else {
+            ask();
+        }
+    }
+
+    /** One object is used for as many calls as it may be; the last one tells the sum of all. */
+    private void callUpToTheLast() {
+        while (used < MOST_CALLS - 4 && !Expect.isAnyWrong()) {
+            if (statements > 20 + random.nextInt(20) && random.nextBoolean()) {
+                tellSame("undo()", () -> program.undo(), model::undo);
+                statements = model.statements.size();
+            } else {
+                tellOrAsk();
+            }
+        }
+        while (used < MOST_CALLS - 1) {
+            same("culprit()", () -> program.culprit(), model::culprit);
+        }
+        compareDigest();
+        Expect.yes("all calls are made", used == MOST_CALLS || Expect.isAnyWrong());
+    }
+
     private interface Call {
         double answer();
     }
 
     private void same(String call, Call got, Call due) {
+        countCall();
         story.append(' ').append(call).append(';');
         Expect.same(call, outcome(call, got), outcome(call, due));
+    }
+
+    private void tellSame(String call, Call got, Call due) {
+        same(call, got, due);
+        tellings.add(got);
+    }
+
+    private void compareDigest() {
+        countCall();
+        Expect.same("digest()", program.digest(), model.digest());
+    }
+
+    private void countCall() {
+        if (used == MOST_CALLS) {
+            program = new Ironwood();
+            for (Call telling : tellings) {
+                outcome("telling again", telling);
+            }
+            used = tellings.size();
+        }
+        used++;
     }
 
     /** An exception counts as a number below all answers. */
@@ -123,7 +176,7 @@ public final class ModelTest {
 
     private void tellVariable(int kind) {
         boolean isParameter = random.nextInt(3) != 0;
-        same("variable(" + kind + ", " + isParameter + ")",
+        tellSame("variable(" + kind + ", " + isParameter + ")",
                 () -> program.variable(kind, isParameter), () -> model.variable(kind, isParameter));
         variables = model.kinds.size();
     }
@@ -141,10 +194,10 @@ public final class ModelTest {
         } else if (kind < 58) {
             int v = anyVariable();
             int p = anyPlace(v);
-            same("read(" + v + ", " + p + ")", () -> program.read(v, p), () -> model.read(v, p));
+            tellSame("read(" + v + ", " + p + ")", () -> program.read(v, p), () -> model.read(v, p));
         } else if (kind < 63) {
             int v = anyVariable();
-            same("drop(" + v + ")", () -> program.drop(v), () -> model.drop(v));
+            tellSame("drop(" + v + ")", () -> program.drop(v), () -> model.drop(v));
         } else if (kind < 74) {
             tellCall();
         } else {
@@ -157,7 +210,7 @@ public final class ModelTest {
         int v = random.nextInt(3) == 0 ? variableOf(3, 3) : variableOf(0, 1);
         int p = model.kinds.size() > v && v >= 0 && model.kinds.get(v) == 3 && random.nextInt(9) != 0
                 ? 3 : anyPlace(v);
-        same("write(" + v + ", " + p + ")", () -> program.write(v, p), () -> model.write(v, p));
+        tellSame("write(" + v + ", " + p + ")", () -> program.write(v, p), () -> model.write(v, p));
     }
 
     private void tellMove() {
@@ -165,7 +218,7 @@ public final class ModelTest {
         boolean isKnown = from >= 0 && from < variables;
         int to = isKnown ? variableOf(model.kinds.get(from), model.kinds.get(from)) : anyVariable();
         int p = isKnown && model.kinds.get(from) == 1 ? anyPlace(from) : random.nextInt(20) == 0 ? 3 : -1;
-        same("move(" + to + ", " + from + ", " + p + ")",
+        tellSame("move(" + to + ", " + from + ", " + p + ")",
                 () -> program.move(to, from, p), () -> model.move(to, from, p));
     }
 
@@ -174,11 +227,11 @@ public final class ModelTest {
         if (isLend) {
             int of = variableOf(0, 1);
             int p = anyPlace(of);
-            same("lend(" + to + ", " + of + ", " + p + ")",
+            tellSame("lend(" + to + ", " + of + ", " + p + ")",
                     () -> program.lend(to, of, p), () -> model.lend(to, of, p));
         } else {
             int from = variableOf(2, 3);
-            same("relend(" + to + ", " + from + ")",
+            tellSame("relend(" + to + ", " + from + ")",
                     () -> program.relend(to, from), () -> model.relend(to, from));
         }
     }
@@ -188,26 +241,26 @@ public final class ModelTest {
         int one = random.nextBoolean() ? variableOf(2, 3) : variableOrNone();
         int other = random.nextInt(3) == 0 ? variableOf(2, 3) : variableOrNone();
         int ties = random.nextInt(40) == 0 ? random.nextInt(9) - 3 : random.nextInt(4);
-        same("call(" + to + ", " + one + ", " + other + ", " + ties + ")",
+        tellSame("call(" + to + ", " + one + ", " + other + ", " + ties + ")",
                 () -> program.call(to, one, other, ties), () -> model.call(to, one, other, ties));
     }
 
     private void tellWay(int kind) {
         int target = anyTarget();
         if (kind < 84) {
-            same("branch(false, " + target + ")",
+            tellSame("branch(false, " + target + ")",
                     () -> program.branch(false, target), () -> model.branch(false, target));
         } else if (kind < 87) {
-            same("branch(true, " + target + ")",
+            tellSame("branch(true, " + target + ")",
                     () -> program.branch(true, target), () -> model.branch(true, target));
         } else if (kind < 91) {
             int v = random.nextInt(3) == 0 ? variableOrNone() : variableOf(2, 3);
-            same("finish(" + v + ")", () -> program.finish(v), () -> model.finish(v));
+            tellSame("finish(" + v + ")", () -> program.finish(v), () -> model.finish(v));
         } else if (kind < 95) {
-            same("undo()", program::undo, model::undo);
+            tellSame("undo()", () -> program.undo(), model::undo);
         } else {
             int s = anyBranch();
-            same("setTarget(" + s + ", " + target + ")",
+            tellSame("setTarget(" + s + ", " + target + ")",
                     () -> program.setTarget(s, target), () -> model.setTarget(s, target));
         }
     }
@@ -254,16 +307,16 @@ public final class ModelTest {
         same("ofFault(" + fault + ", " + what + ")",
                 () -> program.ofFault(fault, what), () -> model.ofFault(fault, what));
         same("faultsOf(" + what + ")", () -> program.faultsOf(what), () -> model.faultsOf(what));
-        same("faults()", program::faults, model::faults);
-        same("loans()", program::loans, model::loans);
+        same("faults()", () -> program.faults(), model::faults);
+        same("loans()", () -> program.loans(), model::loans);
     }
 
     private void compareAll() {
-        same("variables()", program::variables, () -> model.kinds.size());
-        same("statements()", program::statements, () -> model.statements.size());
-        same("culprit()", program::culprit, model::culprit);
-        same("density()", program::density, model::density);
-        Expect.same("digest()", program.digest(), model.digest());
+        same("variables()", () -> program.variables(), () -> model.kinds.size());
+        same("statements()", () -> program.statements(), () -> model.statements.size());
+        same("culprit()", () -> program.culprit(), model::culprit);
+        same("density()", () -> program.density(), model::density);
+        compareDigest();
         for (int each = 0; each < statements; each++) {
             int s = each;
             same("without(" + s + ")", () -> program.without(s), () -> model.without(s));
@@ -282,7 +335,7 @@ public final class ModelTest {
                 }
             }
         }
-        Expect.same("digest() again", program.digest(), model.digest());
+        compareDigest();
     }
 
     private static int one(boolean isSo) {

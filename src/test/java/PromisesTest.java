@@ -1,17 +1,5 @@
 /** Each promise of the document: ordinary calls, the edges that it names, and wrong calls. */
-public final class PromisesTest {
-    private static final Class<IndexOutOfBoundsException> INDEX = IndexOutOfBoundsException.class;
-    private static final Class<IllegalArgumentException> ARGUMENT = IllegalArgumentException.class;
-    private static final Class<IllegalStateException> STATE = IllegalStateException.class;
-    private static final int PLAIN = 0;
-    private static final int OWNED = 1;
-    private static final int SHARED = 2;
-    private static final int ALONE = 3;
-    private static final int WHOLE = -1;
-    private static final int BEHIND = 3;
-    private static final boolean IF = false;
-    private static final boolean GO = true;
-
+public final class PromisesTest extends Samples {
     private PromisesTest() {
     }
 
@@ -55,16 +43,7 @@ public final class PromisesTest {
         Expect.end("PromisesTest");
     }
 
-    /** The variables 0 to 3 of the kinds 0 to 3, 4 to 7 likewise, all MADE. */
-    private static Ironwood ofEachKind() {
-        Ironwood x = new Ironwood();
-        for (int kind = 0; kind < 8; kind++) {
-            x.variable(kind % 4, true);
-        }
-        return x;
-    }
-
-    private static Ironwood full() {
+    private static Ironwood fortyReads() {
         Ironwood x = ofEachKind();
         while (x.statements() < 40) {
             x.read(0, WHOLE);
@@ -144,7 +123,7 @@ public final class PromisesTest {
             }
         }
         Expect.same("statements()", x.statements(), 6);
-        Ironwood full = full();
+        Ironwood full = fortyReads();
         refused(full, "the 41st write", STATE, () -> full.write(0, WHOLE));
         refused(full, "the 41st write of no place", ARGUMENT, () -> full.write(0, 0));
         refused(full, "the 41st write of no variable", INDEX, () -> full.write(8, 0));
@@ -189,13 +168,14 @@ public final class PromisesTest {
                         Expect.same("its code", x.codeOf(due), 1);
                         due++;
                     } else {
-                        refused(x, call, ARGUMENT, () -> x.move(t, v, p));
+                        Ironwood y = ofEachKind();
+                        refused(y, call, ARGUMENT, () -> y.move(t, v, p));
                     }
                 }
             }
         }
         Expect.same("statements()", x.statements(), 8 + 12);
-        Ironwood full = full();
+        Ironwood full = fortyReads();
         refused(full, "the 41st move", STATE, () -> full.move(0, 4, WHOLE));
         refused(full, "the 41st move of no place", ARGUMENT, () -> full.move(0, 0, WHOLE));
         refused(full, "the 41st move of no variable", INDEX, () -> full.move(0, 8, 0));
@@ -244,13 +224,14 @@ public final class PromisesTest {
                         Expect.same("its code", x.codeOf(due), 2);
                         due++;
                     } else {
-                        refused(x, call, ARGUMENT, () -> x.lend(t, v, p));
+                        Ironwood y = ofEachKind();
+                        refused(y, call, ARGUMENT, () -> y.lend(t, v, p));
                     }
                 }
             }
         }
         Expect.same("loans()", x.loans(), 10);
-        Ironwood full = full();
+        Ironwood full = fortyReads();
         refused(full, "the 41st lend", STATE, () -> full.lend(2, 0, WHOLE));
         refused(full, "the 41st lend to a plain one", ARGUMENT, () -> full.lend(0, 0, WHOLE));
         refused(full, "the 41st lend of no variable", INDEX, () -> full.lend(0, 8, 0));
@@ -289,12 +270,13 @@ public final class PromisesTest {
                     Expect.same("its code", x.codeOf(due), 3);
                     due++;
                 } else {
-                    refused(x, call, ARGUMENT, () -> x.relend(t, f));
+                    Ironwood y = ofEachKind();
+                    refused(y, call, ARGUMENT, () -> y.relend(t, f));
                 }
             }
         }
         Expect.same("loans()", x.loans(), 2 + 2 + 4);
-        Ironwood full = full();
+        Ironwood full = fortyReads();
         refused(full, "the 41st relend", STATE, () -> full.relend(2, 3));
         refused(full, "the 41st relend of the same", ARGUMENT, () -> full.relend(2, 2));
         refused(full, "the 41st relend of no variable", INDEX, () -> full.relend(2, 8));
@@ -343,7 +325,7 @@ public final class PromisesTest {
         }
         Expect.same("statements()", x.statements(), 9);
         Expect.same("faults()", x.faults(), 0);
-        Ironwood full = full();
+        Ironwood full = fortyReads();
         refused(full, "the 41st read", STATE, () -> full.read(0, WHOLE));
         refused(full, "the 41st read of no place", ARGUMENT, () -> full.read(0, 3));
         refused(full, "the 41st read of no variable", INDEX, () -> full.read(8, 3));
@@ -365,7 +347,7 @@ public final class PromisesTest {
         x.undo();
         x.drop(0);
         Expect.same("faults() of a drop of what is unmade", x.faults(), 0);
-        Ironwood full = full();
+        Ironwood full = fortyReads();
         refused(full, "the 41st drop", STATE, () -> full.drop(0));
         refused(full, "the 41st drop of no variable", INDEX, () -> full.drop(8));
     }
@@ -390,7 +372,7 @@ public final class PromisesTest {
         Expect.same("canBe() of what is called and set", x.canBe(2, 1, WHOLE), 2);
         Expect.same("canBe() of the other", x.canBe(3, 3, WHOLE), 4);
         Expect.same("faults()", x.faults(), 0);
-        Ironwood full = full();
+        Ironwood full = fortyReads();
         refused(full, "the 41st call", STATE, () -> full.call(0, -1, -1, 0));
         refused(full, "the 41st call with no ties", ARGUMENT, () -> full.call(0, -1, -1, 4));
         refused(full, "the 41st call of no variable", INDEX, () -> full.call(0, 9, -1, 4));
@@ -437,7 +419,7 @@ public final class PromisesTest {
         self.branch(IF, 2);
         Expect.yes("isReached() of one going to itself", self.isReached(0));
         Expect.no("isReached() behind it", self.isReached(1));
-        Ironwood full = full();
+        Ironwood full = fortyReads();
         refused(full, "the 41st branch", STATE, () -> full.branch(IF, 0));
         refused(full, "the 41st branch to no target", ARGUMENT, () -> full.branch(GO, 41));
     }
@@ -456,7 +438,7 @@ public final class PromisesTest {
         Expect.same("awaited() at an end", x.awaited(1), 2);
         Expect.same("awaited() at an end of none", x.awaited(2), 0);
         Expect.same("awaited() where one cannot come", x.awaited(3), 0);
-        Ironwood full = full();
+        Ironwood full = fortyReads();
         refused(full, "the 41st end", STATE, () -> full.finish(-1));
         refused(full, "the 41st end of no variable", INDEX, () -> full.finish(9));
     }
@@ -482,7 +464,7 @@ public final class PromisesTest {
         Expect.same("setTarget(1, 3)", x.setTarget(1, 3), 40);
         Expect.yes("isReached(3) by a GO", x.isReached(3));
         Expect.same("codeOf(0)", x.codeOf(0), 7);
-        Ironwood full = full();
+        Ironwood full = fortyReads();
         full.undo();
         full.branch(IF, 40);
         Expect.same("setTarget() of the last one", full.setTarget(39, 0), 40);
@@ -491,7 +473,7 @@ public final class PromisesTest {
     private static void undo() {
         Ironwood empty = ofEachKind();
         refused(empty, "undo() of none", STATE, () -> empty.undo());
-        Ironwood x = full();
+        Ironwood x = fortyReads();
         for (int left = 39; left >= 1; left--) {
             Expect.same("undo()", x.undo(), left);
         }
@@ -524,7 +506,7 @@ public final class PromisesTest {
         Expect.same("statements() of one", x.statements(), 1);
         Expect.throwing("codeOf(-1)", INDEX, () -> x.codeOf(-1));
         Expect.throwing("codeOf(1)", INDEX, () -> x.codeOf(1));
-        Ironwood full = full();
+        Ironwood full = fortyReads();
         Expect.same("statements() of 40", full.statements(), 40);
         Expect.same("codeOf(39)", full.codeOf(39), 4);
         Expect.throwing("codeOf(40)", INDEX, () -> full.codeOf(40));
