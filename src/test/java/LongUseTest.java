@@ -74,7 +74,8 @@ public final class LongUseTest extends Samples {
         for (int used = 8; used < MOST_CALLS; used++) {
             boolean isTelling = (used - 8) % 80 < 40;
             int number = (used - 8) % 40;
-            Expect.same("call " + (used + 1), isTelling ? x.read(0, WHOLE) : x.undo(), isTelling ? number : 39 - number);
+            int due = isTelling ? number : 39 - number;
+            Expect.same("call " + (used + 1), isTelling ? x.read(0, WHOLE) : x.undo(), due);
         }
     }
 

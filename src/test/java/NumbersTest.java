@@ -64,7 +64,8 @@ public final class NumbersTest extends Samples {
         int awaited = 0;
         for (int v = 0; v < VARIABLES; v++) {
             for (int place = -1; place <= (v % 4 == OWNED ? 2 : -1); place++) {
-                same("canBe(" + s + ", " + v + ", " + place + ")", b.x.canBe(s, b.at(v), place), a.x.canBe(s, v, place));
+                same("canBe(" + s + ", " + v + ", " + place + ")",
+                        b.x.canBe(s, b.at(v), place), a.x.canBe(s, v, place));
             }
             same("holds(" + s + ", " + v + ")", b.x.holds(s, b.at(v)), a.x.holds(s, v));
             for (int loan = 0; loan <= 3; loan++) {

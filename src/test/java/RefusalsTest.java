@@ -1,3 +1,4 @@
+import java.util.List;
 import java.util.function.Consumer;
 import java.util.function.Supplier;
 
@@ -8,6 +9,8 @@ public final class RefusalsTest extends Samples {
     private static final Supplier<Ironwood> SOME = Samples::some;
     private static final Supplier<Ironwood> NEARLY = Samples::nearlyFull;
     private static final Supplier<Ironwood> FULL = Samples::full;
+    private static final Supplier<Ironwood> UNMADE_ONES = () -> twelve(false);
+    private static final Supplier<Ironwood> MADE_ONES = () -> twelve(true);
     private static final Supplier<Ironwood> SOME_MORE = goingOn(SOME);
     private static final Supplier<Ironwood> FULL_MORE = goingOn(FULL);
     private static final int VARIABLES = 8;
@@ -37,6 +40,14 @@ public final class RefusalsTest extends Samples {
         faultsOf();
         callsThatRefuseNothing();
         Expect.end("RefusalsTest");
+    }
+
+    private static Ironwood twelve(boolean areParameters) {
+        Ironwood x = ofKinds(12, areParameters);
+        x.lend(2, 1, 0);
+        x.move(5, 1, WHOLE);
+        x.read(11, BEHIND);
+        return x;
     }
 
     // ---- how a call is looked at
@@ -171,6 +182,8 @@ public final class RefusalsTest extends Samples {
                 int k = kind;
                 refused(FULL, "the 13th variable", STATE, y -> y.variable(k, true));
                 refused(FULL, "the 13th variable", STATE, y -> y.variable(k, false));
+                refused(UNMADE_ONES, "the 13th variable", STATE, y -> y.variable(k, true));
+                refused(MADE_ONES, "the 13th variable", STATE, y -> y.variable(k, false));
             }
         });
         Expect.holds("Promise 2: if both apply, IllegalArgumentException is thrown", () -> {
@@ -690,7 +703,7 @@ public final class RefusalsTest extends Samples {
     /** These have no "Throws" row: they answer for any number, on any object. */
     private static void callsThatRefuseNothing() {
         Expect.holds("Promises 1, 14, 15, 22, 24, 25, 31 to 33: nothing is thrown", () -> {
-            for (Supplier<Ironwood> maker : java.util.List.of(EMPTY, UNUSED, SOME, NEARLY, FULL)) {
+            for (Supplier<Ironwood> maker : List.of(EMPTY, UNUSED, SOME, NEARLY, FULL)) {
                 answers(maker, "variables()", Ironwood::variables);
                 answers(maker, "statements()", Ironwood::statements);
                 answers(maker, "loans()", Ironwood::loans);

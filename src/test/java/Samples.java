@@ -96,4 +96,25 @@ abstract class Samples {
             default -> x.branch(GO, number + 1);
         }
     }
+
+    /** So many STATEMENTS that change nothing. */
+    static Ironwood row(int count) {
+        Ironwood x = ofEachKind();
+        while (x.statements() < count) {
+            x.read(0, WHOLE);
+        }
+        return x;
+    }
+
+    interface Telling {
+        void tell(Ironwood x);
+    }
+
+    /** What the WHOLE can be, and then each FIELD, if these are told, too. */
+    static void canBe(Ironwood x, int statement, int variable, int... due) {
+        for (int place = -1; place < due.length - 1; place++) {
+            Expect.same("canBe(" + statement + ", " + variable + ", " + place + ")",
+                    x.canBe(statement, variable, place), due[place + 1]);
+        }
+    }
 }
