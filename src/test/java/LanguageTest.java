@@ -1,121 +1,216 @@
+import com.sun.source.tree.ClassTree;
+import com.sun.source.tree.Tree;
 import java.io.IOException;
 import java.lang.management.ManagementFactory;
-import java.lang.reflect.Field;
-import java.lang.reflect.Member;
-import java.lang.reflect.Method;
-import java.lang.reflect.Modifier;
 import java.nio.file.Files;
 import java.nio.file.Path;
 import java.util.ArrayList;
 import java.util.List;
 import java.util.Set;
 import java.util.TreeSet;
+import java.util.stream.Collectors;
+import javax.lang.model.element.Element;
+import javax.lang.model.element.ElementKind;
+import javax.lang.model.element.ExecutableElement;
+import javax.lang.model.element.Modifier;
+import javax.lang.model.element.TypeElement;
+import javax.lang.model.element.VariableElement;
 
-/** The rules of LANGUAGE.md that can be seen from the program's text, its face or what it makes. */
+/** LANGUAGE.md, rule by rule, held against the program as the compiler reads it. */
 public final class LanguageTest {
-    private static final Path SOURCE = Path.of("src/main/java/Ironwood.java");
-    private static final String[] FACE = {
-        "awaited(int) int", "branch(boolean,int) int", "call(int,int,int,int) int",
-        "canBe(int,int,int) int", "canHold(int,int,int) boolean", "codeOf(int) int",
-        "copied(int) int", "culprit() int", "density() double", "digest() long", "drop(int) int",
-        "faults() int", "faultsAt(int) int", "faultsOf(int) int", "finish(int) int",
-        "holds(int,int) int", "isLive(int,int) boolean", "isReached(int) boolean",
-        "lend(int,int,int) int", "loans() int", "move(int,int,int) int", "ofFault(int,int) int",
-        "read(int,int) int", "region(int) int", "relend(int,int) int", "setTarget(int,int) int",
-        "statements() int", "undo() int", "variable(int,boolean) int", "variables() int",
-        "without(int) int", "write(int,int) int",
-    };
-    private static final String[] UNWANTED = {
-        "import ", "package ", "->", "::", "catch", "finally", "synchronized", "assert ", "System.",
-        "Exact(", "\" +", "+ \"", "native ", "volatile ",
-    };
+    private static final Path PROGRAM = Path.of("src/main/java/Ironwood.java");
+    private static final Path DOCUMENT = Path.of("../shared/DOC.md");
+    /** What the program is written with: all of it is among what the rules leave. */
+    private static final Set<String> USED = Set.of("COMPILATION_UNIT", "CLASS", "METHOD", "VARIABLE", "MODIFIERS",
+            "BLOCK", "IF", "FOR_LOOP", "SWITCH", "CASE", "CONSTANT_CASE_LABEL", "DEFAULT_CASE_LABEL", "RETURN",
+            "THROW", "EXPRESSION_STATEMENT", "ASSIGNMENT", "OR_ASSIGNMENT", "AND_ASSIGNMENT", "PLUS_ASSIGNMENT",
+            "CONDITIONAL_EXPRESSION", "CONDITIONAL_AND", "CONDITIONAL_OR", "LOGICAL_COMPLEMENT",
+            "BITWISE_COMPLEMENT", "UNARY_MINUS", "POSTFIX_INCREMENT", "POSTFIX_DECREMENT", "PLUS", "MINUS",
+            "MULTIPLY", "DIVIDE", "AND", "OR", "LEFT_SHIFT", "RIGHT_SHIFT", "LESS_THAN", "LESS_THAN_EQUAL",
+            "GREATER_THAN", "GREATER_THAN_EQUAL", "EQUAL_TO", "NOT_EQUAL_TO", "PARENTHESIZED", "TYPE_CAST",
+            "METHOD_INVOCATION", "MEMBER_SELECT", "ARRAY_ACCESS", "NEW_CLASS", "NEW_ARRAY", "IDENTIFIER",
+            "PRIMITIVE_TYPE", "ARRAY_TYPE", "INT_LITERAL", "LONG_LITERAL", "DOUBLE_LITERAL", "BOOLEAN_LITERAL",
+            "STRING_LITERAL");
+    private static final Set<String> TYPES = Set.of("void", "int", "long", "boolean", "double", "int[]", "long[]");
+    private static final Set<String> LIBRARY = Set.of("java.lang.Long.bitCount(long)", "java.lang.Math.min(int,int)",
+            "java.lang.IllegalStateException.IllegalStateException(java.lang.String)",
+            "java.lang.IllegalArgumentException.IllegalArgumentException(java.lang.String)",
+            "java.lang.IndexOutOfBoundsException.IndexOutOfBoundsException(java.lang.String)",
+            "java.lang.Object.Object()");
+    private static final int MOST_OPEN = 8;
+    private static final int MOST_LINES = 60;
+    private static final int MOST_CLASSES = 12;
+    private static final int MOST_FIELDS = 20;
+    private static final int MOST_PARAMETERS = 7;
+    private static final long ROOM = 7_300_000;
+    private static Source source;
+    private static TypeElement program;
 
     private LanguageTest() {
     }
 
     public static void main(String[] args) throws IOException {
-        face();
-        classes();
-        text();
-        room();
+        source = Source.of(PROGRAM);
+        program = source.classes.get(0);
+        List<String> document = Files.readAllLines(DOCUMENT);
+        Expect.holds("1. The face: the members of the document and no other", () -> face(document));
+        Expect.holds("1. No private method bears the name of a public one", LanguageTest::names);
+        Expect.holds("2. Classes inside: private and static, no lambda, no method reference", LanguageTest::classes);
+        Expect.holds("3. Types: those that stand there alone", LanguageTest::types);
+        Expect.holds("4. The library: only what stands here", LanguageTest::library);
+        Expect.holds("5. Static fields are final: constants", LanguageTest::constants);
+        Expect.holds("6. A call of the face throws what the document says, and nothing else", LanguageTest::thrown);
+        Expect.holds("7. A divisor is looked at before it divides", () -> noBreach(7));
+        Expect.holds("8. Recursion: there is none", LanguageTest::recursion);
+        Expect.holds("9. Every loop has an end that can be seen from its own lines", () -> noBreach(9));
+        Expect.holds("10. The program is written with what the rules leave", LanguageTest::kinds);
+        Expect.holds("11. Short methods, few parameters, classes and fields; eight calls deep", LanguageTest::sizes);
+        Expect.holds("12. What is made, is made with the object", LanguageTest::room);
+        Expect.holds("13. The same calls always give the same answers", LanguageTest::sameAnswers);
         Expect.end("LanguageTest");
     }
 
-    private static void face() {
-        Set<String> got = new TreeSet<>();
-        for (Method method : Ironwood.class.getDeclaredMethods()) {
-            if (!Modifier.isPrivate(method.getModifiers())) {
-                Expect.yes(method + " is public", Modifier.isPublic(method.getModifiers()));
-                Expect.no(method + " is static", Modifier.isStatic(method.getModifiers()));
-                got.add(told(method));
+    private static void face(List<String> document) {
+        List<String> due = new ArrayList<>();
+        for (String line : document) {
+            if (line.startsWith("    public ")) {
+                due.add(line.strip().replace("public ", "").replace(";", ""));
             }
         }
-        Set<String> due = new TreeSet<>(List.of(FACE));
-        Expect.yes("the face is " + got + ", due is " + due, got.equals(due));
-        Expect.yes("Ironwood is final", Modifier.isFinal(Ironwood.class.getModifiers()));
-        Expect.same("constructors", Ironwood.class.getDeclaredConstructors().length, 1);
-        Expect.same("public constructors", Ironwood.class.getConstructors().length, 1);
-        for (Field field : Ironwood.class.getDeclaredFields()) {
-            Expect.yes(field + " is private", Modifier.isPrivate(field.getModifiers()));
+        due.sort(null);
+        List<String> got = new ArrayList<>();
+        for (Element member : program.getEnclosedElements()) {
+            if (member instanceof ExecutableElement method && !Source.isPrivate(member)) {
+                Expect.same(method + " is", method.getModifiers().toString(), "[public]");
+                got.add(told(method));
+            } else if (member.getKind() == ElementKind.FIELD) {
+                Expect.yes(member + " is private", Source.isPrivate(member));
+            }
         }
+        got.sort(null);
+        Expect.yes("the document tells its face", due.size() == 33);
+        Expect.same("the face", String.join("; ", got), String.join("; ", due));
+        Expect.same("the class is", program.getModifiers().toString(), "[public, final]");
+        Expect.same("classes in the file", source.unit.getTypeDecls().size(), 1);
+        Expect.yes("no package", source.unit.getPackageName() == null);
+        Expect.yes("no import", source.unit.getImports().isEmpty());
     }
 
-    private static String told(Method method) {
-        StringBuilder text = new StringBuilder(method.getName()).append('(');
-        for (Class<?> parameter : method.getParameterTypes()) {
-            text.append(text.charAt(text.length() - 1) == '(' ? "" : ",").append(parameter.getName());
+    private static String told(ExecutableElement method) {
+        String parameters = method.getParameters().stream()
+                .map(p -> p.asType() + " " + p.getSimpleName()).collect(Collectors.joining(", "));
+        String thrown = method.getThrownTypes().stream()
+                .map(LanguageTest::simple).collect(Collectors.joining(", "));
+        boolean isConstructor = method.getKind() == ElementKind.CONSTRUCTOR;
+        return (isConstructor ? "Ironwood" : method.getReturnType() + " " + method.getSimpleName())
+                + "(" + parameters + ")" + (thrown.isEmpty() ? "" : " throws " + thrown);
+    }
+
+    private static String simple(Object name) {
+        return name.toString().replaceAll("^.*\\.", "");
+    }
+
+    private static void names() {
+        Set<String> names = new TreeSet<>();
+        for (Source.Method method : source.methods.values()) {
+            if (!Source.isPrivate(method.element)) {
+                names.add(method.element.getSimpleName().toString());
+            }
         }
-        return text.append(") ").append(method.getReturnType().getName()).toString();
+        for (Source.Method method : source.methods.values()) {
+            boolean isTaken = Source.isPrivate(method.element) && !method.isConstructor()
+                    && names.contains(method.element.getSimpleName().toString());
+            Expect.no(method + " bears a public name", isTaken);
+        }
     }
 
     private static void classes() {
-        Set<String> names = new TreeSet<>();
-        for (Method method : Ironwood.class.getMethods()) {
-            names.add(method.getName());
-        }
-        List<Class<?>> all = new ArrayList<>(List.of(Ironwood.class.getDeclaredClasses()));
-        Expect.yes("there are at most twelve classes", all.size() < 12);
-        for (Class<?> inner : all) {
-            Expect.yes(inner + " is private", Modifier.isPrivate(inner.getModifiers()));
-            Expect.yes(inner + " is static", Modifier.isStatic(inner.getModifiers()));
-        }
-        all.add(Ironwood.class);
-        for (Class<?> each : all) {
-            int fields = 0;
-            for (Field field : each.getDeclaredFields()) {
-                boolean isStatic = Modifier.isStatic(field.getModifiers());
-                Expect.yes(field + " is final or not static", !isStatic || isFinal(field));
-                fields += isStatic ? 0 : 1;
-            }
-            Expect.yes(each + " has at most twenty fields", fields <= 20);
-            for (Method method : each.getDeclaredMethods()) {
-                boolean isPrivate = Modifier.isPrivate(method.getModifiers());
-                Expect.no(method + " bears a public name", isPrivate && names.contains(method.getName()));
-                Expect.yes(method + " takes at most seven", method.getParameterCount() <= 7);
+        for (TypeElement each : source.classes) {
+            boolean isInside = each != program;
+            boolean isStatic = each.getModifiers().contains(Modifier.STATIC);
+            Expect.yes(each + " is private and static", !isInside || Source.isPrivate(each) && isStatic);
+            Expect.yes(each + " is a class", each.getKind() == ElementKind.CLASS);
+            for (Element member : each.getEnclosedElements()) {
+                Expect.yes(member + " of " + each + " is private", !isInside || Source.isPrivate(member));
             }
         }
     }
 
-    private static boolean isFinal(Member member) {
-        return Modifier.isFinal(member.getModifiers());
+    private static void types() {
+        for (String type : source.types) {
+            Expect.yes("the type " + type, TYPES.contains(type) || type.startsWith("Ironwood."));
+        }
+        noBreach(3);
     }
 
-    private static void text() throws IOException {
-        int length = 0;
-        for (String line : Files.readAllLines(SOURCE)) {
-            boolean isComment = line.strip().startsWith("/**") || line.strip().startsWith("//");
-            for (String unwanted : UNWANTED) {
-                Expect.no("the text has '" + unwanted + "': " + line, !isComment && line.contains(unwanted));
-            }
-            boolean isOpening = line.endsWith("{") && !line.contains(" class ");
-            boolean isAtHead = line.matches("( {4}| {8})(\\S.*)") && !line.strip().startsWith("}");
-            length = isOpening && isAtHead ? 1 : length + 1;
-            Expect.yes("a method stays short: " + line, length <= 60 || !line.matches("( {4}| {8})}"));
+    private static void library() {
+        for (String used : source.library) {
+            Expect.yes(used + " is used", LIBRARY.contains(used));
         }
     }
 
-    /** What is made, is made with the object: the calls that look at most of it make nothing. */
+    private static void constants() {
+        for (TypeElement each : source.classes) {
+            for (Element member : each.getEnclosedElements()) {
+                if (member instanceof VariableElement field && field.getModifiers().contains(Modifier.STATIC)) {
+                    Expect.yes(field + " is final", field.getModifiers().contains(Modifier.FINAL));
+                    Expect.yes(field + " is a constant", field.getConstantValue() != null);
+                }
+            }
+        }
+        for (Tree member : ((ClassTree) source.unit.getTypeDecls().get(0)).getMembers()) {
+            Expect.no("a static block", member.getKind() == Tree.Kind.BLOCK);
+        }
+    }
+
+    private static void thrown() {
+        noBreach(6);
+        for (Source.Method method : source.methods.values()) {
+            if (!Source.isPrivate(method.element)) {
+                Set<String> due = new TreeSet<>();
+                method.element.getThrownTypes().forEach(type -> due.add(type.toString()));
+                Expect.same(method + " throws", source.thrownBy(method.element).toString(), due.toString());
+            }
+        }
+    }
+
+    private static void recursion() {
+        for (Source.Method method : source.methods.values()) {
+            Expect.no(method + " comes to call itself", source.depthOf(method.element, new ArrayList<>()) < 0);
+        }
+    }
+
+    private static void kinds() {
+        for (Tree.Kind kind : source.kinds) {
+            Expect.yes(kind + " is used", USED.contains(kind.name()));
+        }
+        noBreach(10);
+    }
+
+    private static void sizes() {
+        for (Source.Method method : source.methods.values()) {
+            int parameters = method.element.getParameters().size();
+            Expect.yes(method + " takes " + parameters, parameters <= MOST_PARAMETERS);
+            Expect.yes(method + " has " + method.lines + " lines", method.lines <= MOST_LINES);
+            int depth = source.depthOf(method.element, new ArrayList<>());
+            Expect.yes(method + " goes " + depth + " deep", depth <= MOST_OPEN);
+        }
+        Expect.yes(source.classes.size() + " classes", source.classes.size() <= MOST_CLASSES);
+        for (TypeElement each : source.classes) {
+            long fields = each.getEnclosedElements().stream()
+                    .filter(member -> member.getKind() == ElementKind.FIELD)
+                    .filter(member -> !member.getModifiers().contains(Modifier.STATIC)).count();
+            Expect.yes(each + " has " + fields + " fields", fields <= MOST_FIELDS);
+        }
+    }
+
+    private static void noBreach(int rule) {
+        List<String> found = source.breaches.getOrDefault(rule, List.of());
+        Expect.same("breaches of rule " + rule, found.toString(), "[]");
+    }
+
     private static void room() {
+        noBreach(12);
         Ironwood[] all = new Ironwood[4];
         for (int k = 0; k < all.length; k++) {
             all[k] = busy();
@@ -130,6 +225,24 @@ public final class LanguageTest {
         }
         long bytes = made() - before;
         Expect.yes("calls make nothing, but made " + bytes + " bytes", bytes < 15_000);
+        before = made();
+        Ironwood[] more = new Ironwood[100];
+        for (int k = 0; k < more.length; k++) {
+            more[k] = new Ironwood();
+        }
+        bytes = (made() - before) / more.length;
+        Expect.yes("an object takes " + bytes + " bytes: a thousand have room", bytes / 4 < ROOM / 1000);
+    }
+
+    private static void sameAnswers() {
+        Ironwood x = busy();
+        Ironwood other = busy();
+        for (int target = 0; target <= 40; target++) {
+            x.setTarget(39, target);
+            other.setTarget(39, target);
+            Expect.same("culprit()", x.culprit(), other.culprit());
+            Expect.same("digest()", x.digest(), other.digest());
+        }
     }
 
     private static Ironwood busy() {
